@@ -747,9 +747,11 @@ public final class LoafGates {
                 case HUNGER: into.hunger[c] = v; break;
                 case SHOW: into.show[c] = v; break;
                 case GATE: into.gate[c] = v; break;
-                default:
+                case HOUR:
                     into.hour[c] = v;
                     into.comers++;
+                    break;
+                default: return WRONG;
             }
             return step + 1;
         }

@@ -12,6 +12,7 @@ public final class BetterTest {
         partedAnew();
         givenOn();
         givenByCapacity();
+        givenTheNearestTogether();
         wintersThatSettle();
         wintersMore();
         noWinter();
@@ -33,6 +34,7 @@ public final class BetterTest {
 
     private static void bestLantern() {
         check.same("between", Check.of("w,1;p1500;c1400;p0500;p0600").best(), 6);
+        check.same("none and one", Check.of("w,1;p1000").best(), 1);
         check.same("none hungry", Check.of("w,1;p0500").best(), 0);
         check.same("all hungry", Check.of("w,1;p1500;p1200").best(), 6);
         LoafGates grand = Check.of("w,1;g1900");
@@ -47,6 +49,11 @@ public final class BetterTest {
         for (int v = 0; v < 5; v++) check.same("without " + v, x.without(v), due[v]);
         x.manner(1);
         check.same("whatever manner is", x.without(0), 3);
+        x.bake(0, 0);
+        check.same("as loaves are now", x.without(2), 4);
+        LoafGates looks = Check.of("w,2;p1905;p1805;p2000");
+        check.same("fewest by looks", looks.without(3), 1);
+        check.same("not by the hour", looks.without(2), 2);
         check.same("of several the least", Check.of(FIVE).without(4), 0);
         check.same("manner stays", x.many(5), 1);
         check.same("without 5", x.without(5), LoafGates.OUTSIDE);
@@ -79,6 +86,8 @@ public final class BetterTest {
         check.same("without hunger", x.needs(4), LoafGates.NONE);
         check.same("chalk stays", x.many(6), 1);
         check.same("never", Check.of("w,0;p1100").needs(0), LoafGates.NONE);
+        x.bake(0, 0);
+        check.same("as loaves are now", x.needs(0), LoafGates.NONE);
         check.same("nine", Check.of("w,1;p1900;c1001").needs(1), LoafGates.NONE);
         check.same("nine and earlier", Check.of("w,1;p1901;c1000").needs(1), 9);
         check.same("needs of none", x.needs(5), LoafGates.UNKNOWN);
@@ -100,6 +109,10 @@ public final class BetterTest {
         partedDue("w,9,9,1;p0000", 0, 1, 9, 9);
         partedDue("w,9,3,0;p3900;p1800;p9910;p1810;p1120", 1, 4, 1, 7);
         LoafGates x = Check.of("w,1;p1100");
+        check.same("before", x.parted(-1), 0);
+        x.bake(0, 0);
+        check.same("as loaves are now", x.parted(-1), 1);
+        check.same("loaves then", x.parted(0), 0);
         check.same("parted 3", x.parted(3), LoafGates.OUTSIDE);
         check.same("parted -2", x.parted(-2), LoafGates.OUTSIDE);
     }
@@ -117,6 +130,10 @@ public final class BetterTest {
         x.know(0, 2);
         check.same("straight", x.given(), 2);
         check.same("none goes without", Check.of("w,1;p1100;p0000").given(), 0);
+        LoafGates first = Check.of("w,2;p1100;p2900");
+        check.same("the first goes without", first.given(), LoafGates.NONE);
+        first.know(1, 0);
+        check.same("and gets one", first.given(), 1);
         LoafGates two = Check.of("w,2;p2900;p1100");
         two.know(0, 1);
         check.same("one is kept", two.given(), 1);
@@ -136,6 +153,20 @@ public final class BetterTest {
         check.same("each gives one", x.given(), 1 + 2);
         x.know(1, 2);
         check.same("the nearest for both is not taken twice", x.given(), 2);
+    }
+
+    private static void givenTheNearestTogether() {
+        LoafGates x = Check.of("w,2,2,0;p2900;p2910;p1120;p1120;p0020");
+        int[][] known = {{0, 2}, {0, 3}, {1, 2}, {1, 4}, {4, 0}};
+        for (int[] pair : known) x.know(pair[0], pair[1]);
+        check.same("the last who knows it is not best", x.given(), 2);
+        x.know(0, 3);
+        x.know(1, 3);
+        check.same("from the other", x.given(), 2);
+        x.know(0, 2);
+        check.same("from one alone", x.given(), LoafGates.NONE);
+        x.know(0, 1);
+        check.same("by way of the other", x.given(), 1 + 2);
     }
 
     private static void settle(String text, int behind, int by) {

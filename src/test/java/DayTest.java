@@ -7,6 +7,7 @@ public final class DayTest {
     public static void main(String[] args) {
         daysPlayed();
         dayChangesNothing();
+        theLastComer();
         firstWrong();
         pairsOutside();
         dayRefusals();
@@ -44,6 +45,18 @@ public final class DayTest {
         check.same("chalk is as it was", x.many(6), 1);
         check.same("loaves are as they were", x.ofGate(2, 0), 0);
         check.same("the gate is as it was", x.ofComer(0, 3), 0);
+    }
+
+    private static void theLastComer() {
+        LoafGates x = Check.of("w,1,1;p1100;p1100;p1100;p1100;p1100;p1100");
+        Check.write(x, 1, 2, 1, 16, 9, 5);
+        check.same("led", x.day(1, 2, 0, 1, 15), 1);
+        check.same("who goes without", x.day(1, 2, 0, 1, 2), 30);
+        check.same("its show", x.day(1, 2, 2, 1, 4), 14);
+        Check.write(x, 1, 2, 5, 8, 3, 9);
+        check.same("left at both", x.day(1, 2, 0, 2, 3), 3);
+        Check.write(x, 1, 2, 8, 8, 3, 9);
+        check.same("left at the first too", x.day(1, 2, 0, 2, 3), 5);
     }
 
     private static void wrongAt(LoafGates x, int place, int... pairs) {

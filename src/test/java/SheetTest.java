@@ -24,9 +24,11 @@ public final class SheetTest {
     private static void newRows() {
         LoafGates x = new LoafGates();
         check.same("new", x.sheet(0, 0, 3), 1);
+        x.put(0, 0, 7);
         x.put(0, 2, 7);
         check.same("anew", x.sheet(0, 2, 3), 1);
         check.same("0 at first", x.cell(0, 2, 2), 0);
+        check.same("the first too", x.cell(0, 0, 2), 0);
         check.same("longest", x.sheet(3, 1, 60), 1);
         check.same("last of the longest", x.put(3, 59, 1), 1);
         check.same("shortest", x.sheet(3, 1, 0), 1);

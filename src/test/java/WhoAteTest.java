@@ -73,6 +73,14 @@ public final class WhoAteTest {
         check.same("by the hour now", x.shows(1), 0);
         x.bake(0, 2);
         check.same("by loaves now", x.shows(1), 1023);
+        check.same("kinds by loaves now", x.kinds(1), 7);
+        check.same("chalks by loaves now", x.chalks(), 1023);
+        x.bake(0, 0);
+        check.same("kinds by no loaves now", x.kinds(1), 0);
+        x.bake(0, 1);
+        check.same("shows by one loaf now", x.shows(1), 0);
+        x.bake(0, 2);
+        check.same("shows by two again", x.shows(0), 1023);
     }
 
     private static void setsRefused() {
@@ -105,6 +113,8 @@ public final class WhoAteTest {
         share(x, 0, 7, 10);
         check.same("manner stays", x.many(5), 2);
         check.same("chalk stays", x.many(6), 9);
+        x.bake(0, 0);
+        share(x, 0, 0, 1);
         LoafGates y = Check.of("w,1;p1301;c2000");
         share(y, 0, 1, 10);
         share(y, 1, 9, 10);

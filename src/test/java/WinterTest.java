@@ -12,8 +12,10 @@ public final class WinterTest {
         refusedTextChangesNothing();
         ofComers();
         orderOfAlike();
+        hourNeverOutweighsLooks();
         crowdingOut();
         ofGates();
+        fewerComersThanBefore();
         changes();
         changesRefused();
         check.end();
@@ -104,6 +106,7 @@ public final class WinterTest {
         x.know(0, 1);
         x.reading(0, 1);
         x.tell(0);
+        x.without(2);
         Check.taken(x, "w,1;p1100;p1100");
         check.same("gates anew", x.many(0), 1);
         check.same("comers anew", x.many(1), 2);
@@ -167,6 +170,12 @@ public final class WinterTest {
         places(x, "by the hour", 5, 2, 3, 4, 1, 0);
     }
 
+    private static void hourNeverOutweighsLooks() {
+        LoafGates x = Check.of("w,1;p1400;p0000;p0000;p0000;p0000;p1509");
+        check.same("the last and latest first", x.ofComer(5, 9), 0);
+        check.same("the first and earliest behind it", x.ofComer(0, 7), 1);
+    }
+
     private static void crowdingOut() {
         LoafGates x = Check.of("w,2,0;p1900;p1800;p2700;p1600;p0900;p3510");
         check.same("more hunger alone", x.ofComer(0, 8), 1 << 2);
@@ -193,6 +202,21 @@ public final class WinterTest {
         check.same("a gate without comers", y.ofGate(0, 1), 0);
         check.same("all left there", y.ofGate(0, 2), 7);
         check.same("some is given where too few are", y.ofComer(0, 6), 1);
+    }
+
+    private static void fewerComersThanBefore() {
+        LoafGates x = Check.of("w,9,9,9;g9909;g9909;p0909;g9909;g9909;g9909");
+        x.day(0, 2, 0, 0, 0);
+        Check.taken(x, "w,3;p1500");
+        check.same("left", x.ofGate(0, 2), 2);
+        check.same("comers there", x.ofGate(0, 1), 1);
+        check.same("who eat", x.day(0, 2, 0, 0, 0), 1);
+        check.same("left at all", x.day(0, 2, 0, 0, 3), 2);
+        check.same("looks", x.day(0, 2, 0, 0, 4), 5);
+        check.same("held fed", x.lantern(1, 0), 1);
+        check.same("loaves", x.many(3), 3);
+        Check.taken(x, "w,0;p1500;p1500");
+        check.same("given of none", x.given(), LoafGates.NONE);
     }
 
     private static void changes() {
