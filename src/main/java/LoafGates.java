@@ -401,7 +401,7 @@ public final class LoafGates {
     private int playDay(Sheet acts, int i, int n) {
         trial.become(now);
         for (int p = 0; p < n; p++) {
-            if (!trial.act(acts.cells[i + 2 * p], acts.cells[i + 2 * p + 1])) return p;
+            if (!trial.perform(acts.cells[i + 2 * p + 1], acts.cells[i + 2 * p])) return p;
         }
         return NONE;
     }
@@ -486,6 +486,9 @@ public final class LoafGates {
 
     /** Gates and comers as they stand or might stand, and what follows from that alone. */
     private static final class Winter {
+        // The acts of a day: below ACT_MANNER a comer's show, ACT_MANNER + 1 the chalk.
+        private static final int ACT_MANNER = 6, ACT_BAKE = 8, ACT_LEAD = 11, ACTS = 17;
+
         int gates = 0;
         int comers = 0;
         int manner = 0;
@@ -665,33 +668,34 @@ public final class LoafGates {
 
         // -1 where there is no such act, so that nothing is as told with it.
         static int mostToldWith(int act) {
-            if (act < 0 || act > 16) return -1;
-            if (act == 6) return BY_HOUR;
-            return act >= 11 ? MOST_GATES - 1 : MOST_DIGIT;
+            if (act < 0 || act >= ACTS) return -1;
+            if (act == ACT_MANNER) return BY_HOUR;
+            return act >= ACT_LEAD ? MOST_GATES - 1 : MOST_DIGIT;
         }
 
-        boolean act(int v, int act) {
-            if (act < 6) return showInAct(act, v);
-            if (act >= 11) return leadInAct(act - 11, v);
-            if (act >= 8) return bakeInAct(act - 8, v);
-            if (act == 6) manner = v;
+        // Whether the act can be; then it is done.
+        boolean perform(int act, int v) {
+            if (act < ACT_MANNER) return changeShow(act, v);
+            if (act >= ACT_LEAD) return changeGate(act - ACT_LEAD, v);
+            if (act >= ACT_BAKE) return changeLoaves(act - ACT_BAKE, v);
+            if (act == ACT_MANNER) manner = v;
             else chalk = v;
             return true;
         }
 
-        private boolean showInAct(int c, int v) {
+        private boolean changeShow(int c, int v) {
             if (!hasComer(c)) return false;
             show[c] = v;
             return true;
         }
 
-        private boolean bakeInAct(int g, int v) {
+        private boolean changeLoaves(int g, int v) {
             if (!hasGate(g)) return false;
             loaves[g] = v;
             return true;
         }
 
-        private boolean leadInAct(int c, int g) {
+        private boolean changeGate(int c, int g) {
             if (!hasComer(c) || !hasGate(g)) return false;
             gate[c] = g;
             return true;

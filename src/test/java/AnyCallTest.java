@@ -29,17 +29,17 @@ public final class AnyCallTest {
 
     private static void play(Random draw, int which) {
         LoafGates x = start(which);
+        Calls calls = new Calls(x);
         for (int k = 0; k < 200; k++) {
-            int call = draw.nextInt(Calls.NAMES.length);
+            String name = Calls.NAMES[draw.nextInt(Calls.NAMES.length)];
             int[] a = new int[5];
             for (int p = 0; p < 5; p++) a[p] = draw.nextInt(3) == 0 ? draw.nextInt(4) : WILD[draw.nextInt(WILD.length)];
             String before = digest(x);
-            long answer = Calls.of(x, call, a);
-            boolean refused = answer < 0 && !Calls.NAMES[call].equals("trace");
-            boolean mayChange = CHANGING.contains(Calls.NAMES[call]) && !refused;
+            long answer = calls.answer(name, a);
+            boolean mayChange = CHANGING.contains(name) && answer >= 0;
             if (mayChange || before.equals(digest(x))) continue;
             wrong++;
-            System.out.println(Calls.NAMES[call] + Arrays.toString(a) + " answered " + answer + " and changed something");
+            System.out.println(name + Arrays.toString(a) + " answered " + answer + " and changed something");
         }
     }
 

@@ -167,6 +167,10 @@ public final class BetterTest {
         check.same("from one alone", x.given(), LoafGates.NONE);
         x.know(0, 1);
         check.same("by way of the other", x.given(), 1 + 2);
+        LoafGates y = Check.of("w,2,2,0;p2900;p2910;p1120;p1120;p0020");
+        int[][] ways = {{0, 2}, {0, 4}, {1, 4}, {4, 2}, {4, 3}};
+        for (int[] pair : ways) y.know(pair[0], pair[1]);
+        check.same("the fewest of all together", y.given(), 1 + 2);
     }
 
     private static void settle(String text, int behind, int by) {

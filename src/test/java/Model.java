@@ -104,7 +104,7 @@ final class Model {
     boolean[][] knows = new boolean[6][6];
     List<int[]> readings = new ArrayList<>();
     Object[] rows = new Object[4];
-    int trace, fault;
+    private int trace, fault;
 
     private boolean noWinter() {
         return now.comers.isEmpty();
@@ -586,6 +586,14 @@ final class Model {
         if (!comer(c)) return UNKNOWN;
         if (!in(kind, 0, 2)) return OUTSIDE;
         return now.comers.get(c).kind < kind ? faulted(2) : 1;
+    }
+
+    int trace() {
+        return trace;
+    }
+
+    int fault() {
+        return fault;
     }
 
     int many(int what) {

@@ -7,8 +7,8 @@ public final class ModelTest {
     private static final int[] EDGES = {Integer.MIN_VALUE, Integer.MAX_VALUE, -1, 10, 60, 61, 99, 100};
 
     private final Random draw;
-    private final LoafGates gates = new LoafGates();
-    private final Model model = new Model();
+    private final Calls gates = new Calls(new LoafGates());
+    private final Calls model = new Calls(new Model());
     private final int run;
     private int calls = 0;
     private int wrong = 0;
@@ -36,10 +36,9 @@ public final class ModelTest {
     }
 
     private void call(String name, int... a) {
-        int which = Calls.number(name);
         calls++;
-        long due = Calls.of(model, which, a);
-        long got = Calls.of(gates, which, a);
+        long due = model.answer(name, a);
+        long got = gates.answer(name, a);
         if (got == due) return;
         wrong++;
         System.out.println("run " + run + " call " + calls + ": " + name + Arrays.toString(a) + " answered " + got
@@ -94,12 +93,11 @@ public final class ModelTest {
     }
 
     private void any() {
-        int which = below(Calls.NAMES.length);
-        String name = Calls.NAMES[which];
+        String name = Calls.NAMES[below(Calls.NAMES.length)];
         if (name.equals("lose") && below(4) != 0) return;
         int[] a = new int[5];
         for (int k = 0; k < a.length; k++) a[k] = argument();
-        if (name.equals("reading") && below(2) == 0) a[1] = (int) Calls.of(gates, Calls.number("ofComer"), new int[] {a[0], 6});
+        if (name.equals("reading") && below(2) == 0) a[1] = (int) model.answer("ofComer", a[0], 6);
         call(name, a);
         call("fault");
     }
