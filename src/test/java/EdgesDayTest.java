@@ -131,9 +131,8 @@ public final class EdgesDayTest {
             edge.same(10, "all others without", dayOf(x, 2, 9, c), 63 - (1 << c));
             edge.same(10, "show 0 of " + c, dayOf(x, 4, 0, c), 20);
         }
-        LoafGates hours = Check.of("w,1;p1909;p2500;c1004");
-        int[] first = {1, 2, 2};
-        for (int v = 0; v < 3; v++) edge.same(10, "manner " + v, dayOf(hours, 10 + first[v] - 1, v, 6), 1);
+        LoafGates hours = Check.of("w,1;p1909;p2505;c1004");
+        for (int v = 0; v < 3; v++) edge.same(10, "manner " + v, dayOf(hours, 10 + v, v, 6), 1);
         edge.same(10, "chalk 0", dayOf(hours, 4, 0, 7), 14);
         edge.same(10, "chalk 9", dayOf(hours, 4, 9, 7), 23);
         for (int g = 0; g < 3; g++) {
