@@ -34,36 +34,12 @@ public final class AnyCallTest {
             String name = Calls.NAMES[draw.nextInt(Calls.NAMES.length)];
             int[] a = new int[5];
             for (int p = 0; p < 5; p++) a[p] = draw.nextInt(3) == 0 ? draw.nextInt(4) : WILD[draw.nextInt(WILD.length)];
-            String before = digest(x);
+            String before = Edge.digest(x);
             long answer = calls.answer(name, a);
             boolean mayChange = CHANGING.contains(name) && answer >= 0;
-            if (mayChange || before.equals(digest(x))) continue;
+            if (mayChange || before.equals(Edge.digest(x))) continue;
             wrong++;
             System.out.println(name + Arrays.toString(a) + " answered " + answer + " and changed something");
         }
-    }
-
-    /** All that can be asked, but for fault(), which every call that names faults sets. */
-    private static String digest(LoafGates x) {
-        StringBuilder b = new StringBuilder();
-        for (int what = 0; what < 7; what++) b.append(x.many(what)).append(' ');
-        for (int c = 0; c < 6; c++) {
-            for (int what = 0; what < 10; what++) b.append(x.ofComer(c, what)).append(' ');
-            for (int d = 0; d < 6; d++) b.append(x.far(c, d)).append(' ');
-            b.append(x.kinds(c)).append(' ').append(x.shows(c)).append(' ');
-        }
-        for (int g = 0; g < 3; g++) for (int what = 0; what < 4; what++) b.append(x.ofGate(g, what)).append(' ');
-        b.append(x.trace()).append(' ').append(x.chalks()).append(' ');
-        return b.append(cells(x)).toString();
-    }
-
-    private static String cells(LoafGates x) {
-        StringBuilder b = new StringBuilder();
-        for (int k = 0; k < 4; k++) {
-            for (int lane = 0; lane < 3; lane++) {
-                for (int i = 0; i < 61; i += 4) b.append(x.cell(k, i, lane)).append(' ').append(x.fault()).append(' ');
-            }
-        }
-        return b.toString();
     }
 }

@@ -13,7 +13,8 @@ final class Edge {
     static final int[] NO_SHEET = {-1, 4, LEAST, MOST};
     static final int[] NO_LANE = {-1, 3, LEAST, MOST};
     static final int[] NO_DIGIT = {-1, 10, LEAST, MOST};
-    private static final List<String> NAMING_FAULTS = List.of("winter", "day", "sheet", "put", "cell", "copy", "as");
+    static final int[] NO_COMER_OF_FIVE = {-1, 5, 6, LEAST, MOST};
+    static final List<String> NAMING_FAULTS = List.of("winter", "day", "sheet", "put", "cell", "copy", "as");
 
     private final Check check = new Check();
     private final int first;

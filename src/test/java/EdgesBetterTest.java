@@ -5,7 +5,6 @@ public final class EdgesBetterTest {
     private static final Edge edge = new Edge(13, 21);
     private static final int UNKNOWN = LoafGates.UNKNOWN, OUTSIDE = LoafGates.OUTSIDE, STATE = LoafGates.STATE;
     private static final int NONE = LoafGates.NONE;
-    private static final int[] NO_COMER_OF_FIVE = {-1, 5, 6, Edge.LEAST, Edge.MOST};
     private static final int[] NOT_0_OR_1 = {-1, 2, Edge.LEAST, Edge.MOST};
 
     public static void main(String[] args) {
@@ -24,6 +23,7 @@ public final class EdgesBetterTest {
         settlesRefused();
         settling();
         settlesWithin300();
+        asAllIsNow();
         moreRefused();
         more();
         edge.end();
@@ -125,7 +125,7 @@ public final class EdgesBetterTest {
     // ---- promise 16
 
     private static void gainRefused() {
-        for (int c : NO_COMER_OF_FIVE) {
+        for (int c : Edge.NO_COMER_OF_FIVE) {
             edge.refused(16, Edge::five, UNKNOWN, "gain", c);
             edge.refused(17, Edge::five, UNKNOWN, "needs", c);
         }
@@ -267,6 +267,9 @@ public final class EdgesBetterTest {
         given(3, "w,9,0;p9000;p1010;p1010", 0, 1, 1, 2);
         given(2, "w,2,2,0;p2000;p2010;p1020;p1020", 0, 2, 0, 3, 1, 2);
         given(NONE, "w,2,2,0;p2000;p2010;p1020;p1020", 0, 2, 0, 3);
+        given(2, "w,2,2,0;p2000;p2010;p1020;p1020;p0020", 0, 2, 1, 3, 1, 2, 0, 4, 4, 3);
+        given(1 + 3, "w,2,3,0;p2000;p3010;p1020;p1020;p0020", 0, 2, 1, 4, 4, 2, 2, 3);
+        given(2 + 1, "w,2,3,0;p2000;p3010;p1020;p1020;p0020", 0, 2, 1, 4, 4, 2, 2, 3, 0, 3);
     }
 
     private static void givenInARow() {
@@ -307,6 +310,9 @@ public final class EdgesBetterTest {
         settles(Check.of("w,0;p1800"), 1, 1);
         settles(Check.of("w,1;p1000;p1000"), 1, 2);
         settles(Check.of("w,1;p1000;p1100"), 0, 2);
+        settles(Check.of("w,0,1;p1800;p1910"), 9, 1);
+        settles(Check.of("w,0,1;p1810;p1000"), 9, 1);
+        settles(Check.of("w,0;p1000;p1100;p1200;p1300;p1400;p1500"), 9, 1);
         LoafGates x = Edge.five();
         x.settles(0);
         edge.same(20, "nothing is changed", Edge.digest(Edge.five()).equals(Edge.digest(x)) ? 1 : 0, 1);
@@ -323,9 +329,12 @@ public final class EdgesBetterTest {
             showFromWithin(x, row[0]);
             settles(x, row[1], row[2]);
         }
-        LoafGates two = Check.of("w,1,0;p1000;p1010");
-        showFromWithin(two, 200);
-        edge.same(20, "asked again behind another", two.settles(0), 200);
+        LoafGates again = Check.of("w,1;p1000");
+        settles(again, 0, 1);
+        showFromWithin(again, 300);
+        settles(again, NONE, NONE);
+        showFromWithin(again, 299);
+        settles(again, 299, 1);
     }
 
     private static void showFromWithin(LoafGates x, int v) {
@@ -338,6 +347,33 @@ public final class EdgesBetterTest {
         } catch (ReflectiveOperationException gone) {
             throw new IllegalStateException("the class holds shows otherwise now", gone);
         }
+    }
+
+    /** What is asked behind changes, too, is told by how all is then. */
+    private static void asAllIsNow() {
+        LoafGates x = Check.of("w,2,0;p2900;p1000;p1110");
+        edge.same(15, "at first", x.without(2), 2);
+        edge.same(16, "at first", x.gain(2), NONE);
+        edge.same(17, "at first", x.needs(2), NONE);
+        edge.same(18, "at first", x.parted(-1), 1);
+        edge.same(20, "at first", x.settles(0), 9);
+        x.lead(2, 0);
+        x.show(0, 1);
+        x.bake(0, 1);
+        edge.same(15, "then", x.without(2), 2);
+        edge.same(16, "then", x.gain(2), 2);
+        edge.same(17, "then", x.needs(0), 0);
+        edge.same(18, "then", x.parted(-1), 2);
+        edge.same(18, "loaves then", x.parted(0), 1);
+        x.bake(0, 0);
+        edge.same(15, "without loaves", x.without(2), 3);
+        edge.same(16, "without loaves", x.gain(2), NONE);
+        edge.same(17, "without loaves", x.needs(0), NONE);
+        edge.same(18, "without loaves", x.parted(-1), 3);
+        edge.same(20, "without loaves", x.settles(0), 9);
+        x.bake(1, 9);
+        edge.same(18, "with loaves at the other", x.parted(-1), 0);
+        edge.same(18, "its loaves", x.parted(1), 5);
     }
 
     // ---- promise 21

@@ -8,7 +8,6 @@ public final class EdgesDayTest {
     private static final int[] ASKED = {0, 1, 2, 3, 4, 10, 11, 12, 13, 14, 15};
     private static final int[] NOT_ASKED = {-1, 5, 6, 7, 8, 9, 16, Edge.LEAST, Edge.MOST};
     private static final int[] NO_COUNT = {-1, 21, Edge.LEAST, Edge.MOST};
-    private static final int[] NO_COMER_OF_FIVE = {-1, 5, 6, Edge.LEAST, Edge.MOST};
     private static final int[] NO_COMER_OF_SIX = {-1, 6, Edge.LEAST, Edge.MOST};
     // The greatest number told with each act.
     private static final int[] MOST_WITH = {9, 9, 9, 9, 9, 9, 2, 9, 9, 9, 9, 2, 2, 2, 2, 2, 2};
@@ -228,7 +227,7 @@ public final class EdgesDayTest {
     // ---- promise 11
 
     private static void known() {
-        for (int c : NO_COMER_OF_FIVE) {
+        for (int c : Edge.NO_COMER_OF_FIVE) {
             edge.refused(11, Edge::five, UNKNOWN, "know", c, 0);
             edge.refused(11, Edge::five, UNKNOWN, "know", 0, c);
             edge.refused(11, Edge::five, UNKNOWN, "know", c, c);
@@ -254,7 +253,7 @@ public final class EdgesDayTest {
     // ---- promise 12
 
     private static void howFar() {
-        for (int c : NO_COMER_OF_FIVE) {
+        for (int c : Edge.NO_COMER_OF_FIVE) {
             edge.refused(12, Edge::five, UNKNOWN, "far", c, 0);
             edge.refused(12, Edge::five, UNKNOWN, "far", 0, c);
             edge.refused(12, Edge::five, UNKNOWN, "far", c, c);

@@ -5,7 +5,6 @@ public final class EdgesSheetTest {
     private static final Edge edge = new Edge(28, 38);
     private static final int UNKNOWN = LoafGates.UNKNOWN, OUTSIDE = LoafGates.OUTSIDE;
     private static final int NULL = -11, CAST = -12, INDEX = -13, SIZE = -14;
-    private static final int[] NO_COMER_OF_FIVE = {-1, 5, 6, Edge.LEAST, Edge.MOST};
     // Lanes and lengths of the rows that Edge.five has on sheets 0 to 2; 3 has nothing.
     private static final int[] LANE_OF = {2, 0, 1}, LENGTH_OF = {37, 5, 4};
 
@@ -298,7 +297,7 @@ public final class EdgesSheetTest {
     // ---- promises 33 and 34
 
     private static void told() {
-        for (int c : NO_COMER_OF_FIVE) edge.refused(33, Edge::five, UNKNOWN, "tell", c);
+        for (int c : Edge.NO_COMER_OF_FIVE) edge.refused(33, Edge::five, UNKNOWN, "tell", c);
         edge.refused(33, LoafGates::new, UNKNOWN, "tell", 0);
         String[] texts = {"w,0;p9000;c9000;g9000", "w,0;p0900;c0900;g0900"};
         int[][] due = {{0, 100, 100}, {9, 109, 118}};
@@ -316,7 +315,7 @@ public final class EdgesSheetTest {
     }
 
     private static void greeted() {
-        for (int c : NO_COMER_OF_FIVE) edge.refused(34, Edge::five, UNKNOWN, "greet", c);
+        for (int c : Edge.NO_COMER_OF_FIVE) edge.refused(34, Edge::five, UNKNOWN, "greet", c);
         edge.refused(34, LoafGates::new, UNKNOWN, "greet", 0);
         LoafGates x = Check.of("w,0;p0900;p9000;c0900;c9000;g0900;g9000");
         int[] due = {0, 9, 0, 9, 60, 60};
@@ -332,7 +331,7 @@ public final class EdgesSheetTest {
     // ---- promise 35
 
     private static void asOneOfAKind() {
-        for (int c : NO_COMER_OF_FIVE) {
+        for (int c : Edge.NO_COMER_OF_FIVE) {
             edge.refused(35, Edge::five, UNKNOWN, "as", c, 0);
             edge.refused(35, Edge::five, UNKNOWN, "as", c, 3);
         }
@@ -429,7 +428,7 @@ public final class EdgesSheetTest {
 
     private static void faultLeftByOthers() {
         for (String name : Calls.NAMES) {
-            if (java.util.List.of("winter", "day", "sheet", "put", "cell", "copy", "as").contains(name)) continue;
+            if (Edge.NAMING_FAULTS.contains(name)) continue;
             for (int before = 1; before <= 4; before++) {
                 for (int v : new int[] {1, -5, 100}) {
                     LoafGates x = Edge.five();

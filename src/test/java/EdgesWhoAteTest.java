@@ -2,7 +2,6 @@
 public final class EdgesWhoAteTest {
     private static final Edge edge = new Edge(22, 27);
     private static final int UNKNOWN = LoafGates.UNKNOWN, OUTSIDE = LoafGates.OUTSIDE, STATE = LoafGates.STATE;
-    private static final int[] NO_COMER_OF_FIVE = {-1, 5, 6, Edge.LEAST, Edge.MOST};
 
     public static void main(String[] args) {
         readingRefused();
@@ -14,6 +13,7 @@ public final class EdgesWhoAteTest {
         shows();
         chalks();
         setsOfMany();
+        asAllIsNow();
         oddsRefused();
         odds();
         edge.end();
@@ -34,7 +34,7 @@ public final class EdgesWhoAteTest {
     // ---- promise 22
 
     private static void readingRefused() {
-        for (int c : NO_COMER_OF_FIVE) {
+        for (int c : Edge.NO_COMER_OF_FIVE) {
             edge.refused(22, Edge::five, UNKNOWN, "reading", c, 0);
             edge.refused(22, Edge::five, UNKNOWN, "reading", c, 10);
             edge.refused(22, EdgesWhoAteTest::eight, UNKNOWN, "reading", c, 0);
@@ -92,7 +92,7 @@ public final class EdgesWhoAteTest {
     // ---- promises 24 to 26
 
     private static void setsRefused() {
-        for (int c : NO_COMER_OF_FIVE) {
+        for (int c : Edge.NO_COMER_OF_FIVE) {
             edge.refused(24, Edge::five, UNKNOWN, "kinds", c);
             edge.refused(25, Edge::five, UNKNOWN, "shows", c);
         }
@@ -170,10 +170,34 @@ public final class EdgesWhoAteTest {
         edge.same(26, "8 of it", read("w,9;p9000", 0, 8).chalks(), 0);
     }
 
+    /** What is asked behind changes, too, is told by how all is then. */
+    private static void asAllIsNow() {
+        LoafGates x = read("w,1;p1500;c1501", 0, 1);
+        edge.same(24, "at first", x.kinds(1), 1);
+        edge.same(25, "at first", x.shows(1), 31);
+        edge.same(26, "at first", x.chalks(), 1);
+        edge.same(27, "at first", x.odds(1, 0), 3);
+        x.bake(0, 2);
+        edge.same(24, "then", x.kinds(1), 7);
+        x.bake(0, 0);
+        edge.same(25, "without loaves", x.shows(1), 0);
+        x.bake(0, 2);
+        edge.same(26, "then", x.chalks(), 1023);
+        x.bake(0, 0);
+        edge.same(27, "without loaves", x.odds(1, 0), 0);
+        edge.same(24, "without loaves", x.kinds(1), 0);
+        x.bake(0, 2);
+        edge.same(25, "then", x.shows(1), 1023);
+        x.bake(0, 0);
+        edge.same(26, "without loaves", x.chalks(), 0);
+        x.bake(0, 2);
+        edge.same(27, "then", x.odds(1, 0), 1);
+    }
+
     // ---- promise 27
 
     private static void oddsRefused() {
-        for (int c : NO_COMER_OF_FIVE) {
+        for (int c : Edge.NO_COMER_OF_FIVE) {
             edge.lost(27, Edge::five, 0, "odds", c, 0);
             edge.lost(27, Edge::five, 0, "odds", c, 2);
         }

@@ -6,7 +6,6 @@ public final class EdgesWinterTest {
     private static final int UNKNOWN = LoafGates.UNKNOWN, OUTSIDE = LoafGates.OUTSIDE, STATE = LoafGates.STATE;
     private static final int NULL = -11, CAST = -12, INDEX = -13, SIZE = -14;
     private static final String LONGEST = "w,9,9,9;p9909;c9919;g9929;p9909;c9919;g9929";
-    private static final int[] NO_COMER_OF_FIVE = {-1, 5, 6, Edge.LEAST, Edge.MOST};
     private static final int[] NO_GATE = {-1, 3, Edge.LEAST, Edge.MOST};
 
     public static void main(String[] args) {
@@ -232,6 +231,7 @@ public final class EdgesWinterTest {
 
     private static void allAnew() {
         LoafGates x = Edge.five();
+        x.needs(0);
         edge.same(2, "again", x.winter(0, 2, 0, 37), 5);
         edge.same(2, "manner", x.many(5), 0);
         edge.same(2, "chalk", x.many(6), 1);
@@ -250,7 +250,7 @@ public final class EdgesWinterTest {
     // ---- promise 3
 
     private static void comerRefused() {
-        for (int c : NO_COMER_OF_FIVE) {
+        for (int c : Edge.NO_COMER_OF_FIVE) {
             edge.refused(3, Edge::five, UNKNOWN, "ofComer", c, 0);
             edge.refused(3, Edge::five, UNKNOWN, "ofComer", c, 10);
         }
@@ -312,6 +312,8 @@ public final class EdgesWinterTest {
         crowding("w,1,0;p1900;p2010", 0, 0);
         crowding("w,1;p1900;p0000", 0, 0);
         crowding("w,0;p1900;p2000", 0, 0);
+        crowding("w,1;p1000;p1900", 0, 0);
+        crowding("w,2;p1000;p2900", 0, 0);
         crowding("w,1;p0900;p1100;p2000", 0, 4, 0);
         crowding("w,1;p1900;p9000;p9000;p9000;p9000;p9000", 62, 0, 0, 0, 0, 0);
         crowding("w,5;p9000;p1900;p1900;p1900;p1900;p1900", 0, 1, 1, 1, 1, 1);
@@ -379,7 +381,7 @@ public final class EdgesWinterTest {
     // ---- promises 5 to 9
 
     private static void shown() {
-        for (int c : NO_COMER_OF_FIVE) {
+        for (int c : Edge.NO_COMER_OF_FIVE) {
             edge.refused(5, Edge::five, UNKNOWN, "show", c, 0);
             edge.refused(5, Edge::five, UNKNOWN, "show", c, 10);
         }
@@ -395,7 +397,7 @@ public final class EdgesWinterTest {
     }
 
     private static void led() {
-        for (int c : NO_COMER_OF_FIVE) {
+        for (int c : Edge.NO_COMER_OF_FIVE) {
             edge.refused(6, Edge::five, UNKNOWN, "lead", c, 0);
             edge.refused(6, Edge::five, UNKNOWN, "lead", c, 3);
         }
